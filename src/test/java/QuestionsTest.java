@@ -16,6 +16,7 @@ public final class QuestionsTest {
         promise15Wrong(check);
         promise16Nearness(check);
         promise16Slope(check);
+        promise16SlopeOfShortAndSteep(check);
         promise16Order(check);
         promise16Wrong(check);
         promise17GreatestOfKnownStyles(check);
@@ -158,6 +159,24 @@ public final class QuestionsTest {
         Arena.draft(x, 1, 2, 98, 95);
         float p = 6630.0f;
         check.due("another way", p * p / 18058.0f / 2500.0f * 10.0f, () -> x.part(0, 0, 1));
+    }
+
+    private static void promise16SlopeOfShortAndSteep(Check check) {
+        InkRing x = new InkRing();
+        Arena.sign(x, 0, 0, 1, 0);
+        Arena.sign(x, 0, 0, 5, 0);
+        Arena.draft(x, 7, 7, 8, 7);
+        check.due("both as short as can be", 10.0f, () -> x.part(0, 0, 1));
+        check.due("a short one for a longer one", 10.0f, () -> x.part(1, 0, 1));
+        x.clear();
+        Arena.draft(x, 7, 7, 12, 7);
+        check.due("a longer one for a short one", 10.0f, () -> x.part(0, 0, 1));
+        x.clear();
+        Arena.draft(x, 0, 0, 1, 99);
+        check.due("nearly across", 1.0f / 9802.0f / 1.0f * 10.0f, () -> x.part(0, 0, 1));
+        x.clear();
+        Arena.draft(x, 1, 0, 0, 99);
+        check.due("nearly across, the way back", 0.0f, () -> x.part(0, 0, 1));
     }
 
     private static void promise16Order(Check check) {
