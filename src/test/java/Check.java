@@ -18,11 +18,22 @@ final class Check {
     }
 
     private final String test;
+    private String subject = "";
     private int right;
     private int wrong;
 
     Check(String test) {
         this.test = test;
+    }
+
+    /** What the answers looked at from here on are about; told with each wrong one. */
+    void about(String nextSubject) {
+        subject = nextSubject + ": ";
+    }
+
+    /** How many answers were looked at. */
+    int count() {
+        return right + wrong;
     }
 
     /**
@@ -53,7 +64,7 @@ final class Check {
             return;
         }
         wrong++;
-        System.out.println(test + ": " + what + " answered " + got + ", due is " + want);
+        System.out.println(test + ": " + subject + what + " answered " + got + ", due is " + want);
     }
 
     /** Ends the program with exit code 1 if an answer was wrong, or if nothing was tested. */
