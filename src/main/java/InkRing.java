@@ -85,7 +85,7 @@ public final class InkRing {
         if (draft.count == 0 || draft.count > MOST_SIGN_STROKES) {
             throw new IllegalStateException("the draft has not 1 to 6 strokes");
         }
-        if (signCount >= signs.length) {
+        if (!isWithin(signCount, 0, signs.length - 1)) {
             throw new IllegalStateException("there are all signs");
         }
         int number = signCount;
@@ -185,7 +185,7 @@ public final class InkRing {
         if (!isWithin(rounds, 1, MOST_ROUNDS) || !isWithin(draw, 0, MOST_DRAW)) {
             throw new IllegalArgumentException("rounds or draw is out of range");
         }
-        if (signCount == 0 || duelCount >= duels.length) {
+        if (signCount == 0 || !isWithin(duelCount, 0, duels.length - 1)) {
             throw new IllegalStateException("there are no signs, or all duels");
         }
         int number = duelCount;

@@ -383,7 +383,8 @@ final class DuelSentences {
             check.due("the last of " + k, 2 * rounds, () -> handedIn(rounds, 2 * rounds - 1).hand(0, 0));
             Twins.Making over = () -> handedIn(rounds, 2 * rounds);
             Twins.refused(check, "one more of " + k, Check.NOT_NOW, over, x -> x.hand(0, 0));
-            Twins.refused(check, "right seal, one more of " + k, Check.NOT_NOW, over, x -> x.hand(0, Arena.seal(2, 2 * rounds + 1)));
+            int right = Arena.seal(2, 2 * rounds + 1);
+            Twins.refused(check, "right seal, one more of " + k, Check.NOT_NOW, over, x -> x.hand(0, right));
         }
         check.due("a next duel goes on", 3, () -> {
             InkRing x = handedIn(1, 2);

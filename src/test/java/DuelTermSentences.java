@@ -254,9 +254,10 @@ final class DuelTermSentences {
             int number = k;
             boolean byOther = k % 2 == 1;
             check.due("before " + k, Check.NO_SUCH, () -> x.marked(0, number / 2, byOther));
-            Arena.handOff(x, 0, 0, 5 * k);
+            Arena.handOff(x, 0, Arena.seal(byOther ? 2 : 6, k + 1), 5 * k);
             float due = 10.0f - (float) (10 * k) / 10.0f;
             check.due("the writing " + k, due, () -> x.marked(0, number / 2, byOther));
+            check.due("is sealed by whose turn it was", false, () -> x.look(0, number / 2, byOther));
             check.due("how many then", number + 1, () -> x.of(0, 0));
         }
         check.due("round 0 of one is still the first", 10.0f, () -> x.marked(0, 0, false));

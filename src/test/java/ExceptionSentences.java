@@ -255,7 +255,8 @@ final class ExceptionSentences {
         for (int bad : new int[] {-1, 6, Integer.MIN_VALUE, Integer.MAX_VALUE}) {
             Twins.refused(check, "part: sign, what", Check.NO_SUCH, Twins::midway, x -> x.part(3, 0, bad));
             Twins.refused(check, "part: stroke, what", Check.NO_SUCH, Twins::midway, x -> x.part(0, 1, bad));
-            Twins.refused(check, "part: empty draft, what", Check.NO_SUCH, ExceptionSentences::undrafted, x -> x.part(0, 0, bad));
+            Twins.Making undrafted = ExceptionSentences::undrafted;
+            Twins.refused(check, "part: empty draft, what", Check.NO_SUCH, undrafted, x -> x.part(0, 0, bad));
             Twins.refused(check, "of: duel, what", Check.NO_SUCH, Twins::midway, x -> x.of(3, bad));
             Twins.refused(check, "paper: paper, what", Check.NO_SUCH, Twins::midway, x -> x.paper(3, bad));
         }

@@ -376,13 +376,14 @@ final class QuestionSentences {
         Twins.refusedBeyond(check, "one of the sign", Check.NO_SUCH, 0, 0, Twins::midway, (x, n) -> x.part(0, n, 0));
         Twins.refusedBeyond(check, "two of the draft", Check.NO_SUCH, 0, 1, Twins::midway, (x, n) -> x.part(2, n, 0));
         Twins.refusedBeyond(check, "eight of the draft", Check.NO_SUCH, 0, 0, Twins::full, (x, n) -> x.part(5, n, 0));
-        Twins.refusedBeyond(check, "six of a sign, none drafted", Check.NO_SUCH, 0, -1, () -> signs(6), (x, n) -> x.part(5, n, 0));
+        Twins.NumberedCall ofSix = (x, n) -> x.part(5, n, 0);
+        Twins.refusedBeyond(check, "six of a sign, none drafted", Check.NO_SUCH, 0, -1, () -> signs(6), ofSix);
         Twins.Making eightForSix = () -> {
             InkRing x = signs(6);
             Arena.draftOf(x, 8);
             return x;
         };
-        Twins.refusedBeyond(check, "eight for six", Check.NO_SUCH, 0, 5, eightForSix, (x, n) -> x.part(5, n, 0));
+        Twins.refusedBeyond(check, "eight for six", Check.NO_SUCH, 0, 5, eightForSix, ofSix);
         check.due("the sixth of both", 10.0f, () -> eightForSix.make().part(5, 5, 0));
     }
 
@@ -467,7 +468,8 @@ final class QuestionSentences {
     private static void markedNoSuchDuel(Check check) {
         Twins.refusedBeyond(check, "none", Check.NO_SUCH, 0, -1, InkRing::new, (x, n) -> x.marked(n, 0, false));
         Twins.refusedBeyond(check, "three", Check.NO_SUCH, 0, 2, Twins::midway, (x, n) -> x.marked(n, 0, false));
-        Twins.refusedBeyond(check, "twelve", Check.NO_SUCH, 0, 11, QuestionSentences::allDuels, (x, n) -> x.marked(n, 0, false));
+        Twins.Making twelve = QuestionSentences::allDuels;
+        Twins.refusedBeyond(check, "twelve", Check.NO_SUCH, 0, 11, twelve, (x, n) -> x.marked(n, 0, false));
     }
 
     private static void markedNotHandedIn(Check check) {

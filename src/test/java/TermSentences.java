@@ -296,6 +296,12 @@ final class TermSentences {
             }
             check.due("stroke " + both + " of " + drafted + " for 3", Check.NO_SUCH, () -> x.part(0, both, 0));
         }
+        x.style(0, 100, 0, 0);
+        check.due("three of eight are marked", 10.0f, () -> x.mark(0, 0));
+        x.clear();
+        x.stroke(0, 0, 50, 50);
+        check.due("stroke 1 of one, of eight before", Check.NO_SUCH, () -> x.part(0, 1, 0));
+        check.due("one of one is marked", 10.0f / 3.0f, () -> x.mark(0, 0));
     }
 
     private static float nearnessTo(int x, int y, int endX, int endY, int... written) {

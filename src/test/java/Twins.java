@@ -134,7 +134,7 @@ final class Twins {
             int sign = k / 4;
             int style = k % 4;
             put(all, () -> x.mark(sign, style));
-            put(all, () -> x.part(sign, style / 2, style % 2));
+            put(all, () -> x.part(sign, style / 2, style % 3));
         }
         for (int k = 0; k < 18; k++) {
             int duel = k / 6;
