@@ -77,7 +77,7 @@ final class QuestionSentences {
     private static void tellPaper(Sentences s) {
         s.in("Promise 19: paper");
         s.holds("Tells something of a paper", QuestionSentences::paperOfEach);
-        s.holds("- `paper`: 0 to 2", QuestionSentences::paperOfEach);
+        s.holds("- `paper`: 0 to 2", QuestionSentences::paperLeastAndGreatest);
         s.holds("- `what`: 0 its sheets", QuestionSentences::paperSheets);
         s.holds("1 its damp", QuestionSentences::paperDamp);
         s.holds("Returns the number", QuestionSentences::paperOfEach);
@@ -629,6 +629,19 @@ final class QuestionSentences {
             int paper = k;
             check.due("sheets of " + k, paper + 1, () -> x.paper(paper, 0));
             check.due("damp of " + k, paper + 4, () -> x.paper(paper, 1));
+        }
+    }
+
+    private static void paperLeastAndGreatest(Check check) {
+        InkRing x = new InkRing();
+        x.buy(0, 1);
+        x.buy(2, 100);
+        check.due("the least paper", 1, () -> x.paper(0, 0));
+        check.due("the paper between", 0, () -> x.paper(1, 0));
+        check.due("the greatest paper", 100, () -> x.paper(2, 0));
+        for (int bad : new int[] {-1, 3, Integer.MIN_VALUE, Integer.MAX_VALUE}) {
+            check.due("sheets of " + bad, Check.NO_SUCH, () -> x.paper(bad, 0));
+            check.due("damp of " + bad, Check.NO_SUCH, () -> x.paper(bad, 1));
         }
     }
 
